@@ -9,6 +9,7 @@ public final class NightPlotsTest {
         write();
         erase();
         faultsOfWordsAndSigns();
+        faultsOfEachLetter();
         faultsOfNumbers();
         faultsOfHouses();
         faultsOfPathsAndFeuds();
@@ -30,8 +31,10 @@ public final class NightPlotsTest {
         later();
         round();
         roundRest();
+        roundWithin500();
         touch();
         when();
+        whenWithin399();
         often();
         brings();
         feuding();
@@ -42,6 +45,7 @@ public final class NightPlotsTest {
         laws();
         count();
         refusals();
+        eightHouses();
         Check.end("NightPlotsTest");
     }
 
@@ -169,6 +173,21 @@ public final class NightPlotsTest {
         fault("path0 1", NONE);
         fault("path01", 6);
         fault("path 01", 7);
+    }
+
+    private static void faultsOfEachLetter() {
+        String[] lines = {"green 6", "crop 1 1", "narrow 1", "cart 1", "stuck 1", "wide 1", "path 1 2", "feud 0 1",
+            "age", "turn", "rest", "lot 1", "clear"};
+        for (String line : lines) {
+            faultBehind("narrow 0;narrow 4", line, NONE);
+            String word = line.split(" ")[0];
+            for (int i = 0; i < word.length(); i++) {
+                char next = (char) (word.charAt(i) + 1);
+                fault(line.substring(0, i) + next + line.substring(i + 1), 0);
+                fault(line.substring(0, i) + "z" + line.substring(i), 0);
+            }
+            fault(word + "z", 0);
+        }
     }
 
     private static void faultsOfNumbers() {
@@ -635,6 +654,20 @@ public final class NightPlotsTest {
         due("rest: another order than at first", x.round(1), 6);
     }
 
+    // Worked out by the plain model: nights ahead and later are 500 together, and 501.
+    private static void roundWithin500() {
+        NightPlots x = Check.told("green 12;narrow 0;narrow 5;narrow 8;cart 3;cart 10;narrow 2;cart 4;"
+            + "path 7 10;path 5 6;path 1 9;turn");
+        due("500 together", x.round(0), 416);
+        due("500 together", x.round(1), 84);
+        x = Check.told("green 10;cart 9;cart 0;cart 5;narrow 7;cart 3;cart 8;stuck 4;path 7 1;path 3 0;path 3 6;turn");
+        due("501 together", x.round(0), NONE);
+        due("501 together", x.round(1), NONE);
+        x.go(1);
+        due("one fewer ahead", x.round(0), 186);
+        due("as many later", x.round(1), 314);
+    }
+
     private static void touch() {
         NightPlots x = Check.told("green 8;wide 7;narrow 2;narrow 3;cart 5");
         int[][] beside = {{-3, 0, 0, 0}, {0, -3, 1, 0}, {0, 1, -3, 0}, {0, 0, 0, -3}};
@@ -674,6 +707,16 @@ public final class NightPlotsTest {
         due("what", x.when(0, 1, 2), OUTSIDE);
         due("none", x.when(0, 2, 2), UNKNOWN);
         due("nothing changes", x.count(5), 1);
+    }
+
+    // Worked out by the plain model: in 399 nights first, and in 400.
+    private static void whenWithin399() {
+        NightPlots x = Check.told("green 12;narrow 2;narrow 9;cart 7;cart 0;cart 10;cart 6;path 5 8;path 2 5;lot 6209");
+        due("in 399 nights", x.when(0, 2, 1), 399);
+        x = Check.told("green 10;narrow 4;stuck 9;cart 8;narrow 0;cart 1;narrow 6;cart 7;path 3 8;path 4 9;lot 4483");
+        due("in 400 nights", x.when(0, 4, 1), NONE);
+        x.go(1);
+        due("in 400 nights, from the next one", x.when(0, 4, 1), 399);
     }
 
     private static void often() {
@@ -732,6 +775,13 @@ public final class NightPlotsTest {
         due("too far", x.nearest(0, 3, 0), 3);
         x = Check.told("green 12;stuck 0;stuck 4;narrow 1;narrow 3;narrow 11;narrow 5");
         due("not in five", x.nearest(0, 1, 0), NONE);
+        x = Check.told("green 12;stuck 0;stuck 11;narrow 7");
+        due("six", x.nearest(0, 2, 0), NONE);
+        due("six", x.nearest(0, 2, 1), NONE);
+        x.roll(2, 6);
+        due("five then", x.nearest(0, 2, 0), 5);
+        due("five then", x.nearest(0, 2, 1), 45);
+        x = Check.told("green 12;stuck 0;stuck 4;narrow 1;narrow 3;narrow 11;narrow 5");
         due("itself", x.nearest(0, 0, 0), OUTSIDE);
         due("what", x.nearest(0, 1, 2), OUTSIDE);
         due("none", x.nearest(0, 6, 2), UNKNOWN);
@@ -784,6 +834,10 @@ public final class NightPlotsTest {
         due("one is enough", x.mends(0, 1, 9, 0), 1);
         due("one is enough", x.mends(1, 2, 9, 0), 2);
         due("one in the way", x.mends(0, 2, 2, 0), NONE);
+        x = Check.told("green 9;stuck 5;stuck 8;stuck 7;stuck 3;rest");
+        due("house 3, or 0 and 2", x.mends(0, 3, 4, 0), 4);
+        due("the least of one cost", x.mends(0, 3, 4, 1), 5);
+        due("house 3 alone, in fewer nights", x.mends(0, 3, 3, 1), 8);
     }
 
     private static void seen() {
@@ -854,6 +908,26 @@ public final class NightPlotsTest {
             due("count(" + what + ")", x.count(what), OUTSIDE);
         }
         due("count(11)", x.count(11), OUTSIDE);
+    }
+
+    private static void eightHouses() {
+        NightPlots x = Check.told("green 12;narrow 0;cart 1;stuck 2;narrow 3;cart 5;stuck 7;stuck 8;narrow 10");
+        Check.tell(x, "path 1 4;path 5 6;path 5 9;feud 6 7;feud 5 6;rest");
+        due("eight: houses", x.count(1), 8);
+        due("eight: empty", x.count(9), 1 << 4 | 1 << 6 | 1 << 9 | 1 << 11);
+        due("eight: on plot 10", x.plot(10, 0), 7);
+        due("eight: ways", x.as(7, 1), 2);
+        due("eight: beside", x.touch(5, 6, 0), 1);
+        due("eight: feuding", x.feuding(9), 9);
+        due("eight: nearest", x.nearest(6, 7, 0), 1);
+        due("eight: nearest", x.nearest(6, 7, 1), 149);
+        due("eight: mends", x.mends(5, 4, 0, 0), NONE);
+        due("eight: mends, the first to roll", x.mends(6, 7, 1, 1), NONE);
+        due("eight: seen", x.seen(7, 10, 0), 1);
+        due("eight: laws", x.laws(), 7);
+        due("eight: go", x.go(1), 1);
+        due("eight: house 0 back", x.house(0, 1), 11);
+        due("eight: a ninth", x.house(8, 0), UNKNOWN);
     }
 
     private static void refusals() {
