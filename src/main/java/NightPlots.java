@@ -838,12 +838,11 @@ public final class NightPlots {
             return key;
         }
 
-        /** How many are ahead of a house by REST; of several that have not rolled yet the least is ahead. */
+        /** How many have not rolled for longer than a house; those that have not rolled at all are level. */
         private int restRank(int house) {
             int rank = 0;
             for (int other = 0; other < told.houses; other++) {
-                boolean longer = rolled[other] < rolled[house];
-                if (longer || rolled[other] == rolled[house] && other < house) {
+                if (rolled[other] < rolled[house]) {
                     rank++;
                 }
             }

@@ -639,19 +639,50 @@ public final class NightPlotsTest {
         due("turn: later", x.round(1), 2);
     }
 
-    // Two on three plots, by turns: after six nights all is as it was, the order, too.
+    private static void rounds(String what, NightPlots x, int ahead, int later) {
+        due(what + ": ahead", x.round(0), ahead);
+        due(what + ": later", x.round(1), later);
+    }
+
+    // Two on three plots, by turns: after six nights the plots are as they were, but on night 0 nobody has rolled.
     private static void roundRest() {
         NightPlots x = Check.told("green 3;narrow 0;narrow 1;rest");
-        due("rest: ahead", x.round(0), 0);
-        due("rest: later", x.round(1), 6);
-        x.go(2);
-        due("rest: ahead", x.round(0), 0);
-        due("rest: later", x.round(1), 6);
+        rounds("rest, nobody has rolled", x, 1, 6);
+        x.keep(0);
+        x.go(1);
+        rounds("rest, one has rolled", x, 0, 6);
+        x.go(1);
+        rounds("rest, both have rolled", x, 0, 6);
+        x.back(0);
+        rounds("rest, nobody has rolled again", x, 1, 6);
         x = Check.told("green 3;narrow 0;narrow 1;rest");
         x.roll(0, 2);
         x.roll(0, 0);
-        due("rest: another order than at first", x.round(0), 0);
-        due("rest: another order than at first", x.round(1), 6);
+        rounds("rest, another order than at first", x, 0, 6);
+        x = Check.told("green 10;narrow 0;wide 2");
+        Check.tell(x, "rest");
+        rounds("rest told later", x, 1, 20);
+        Check.tell(x, "turn");
+        rounds("by turn night 0 is as night 20", x, 0, 20);
+        roundRestOfSome();
+    }
+
+    private static void roundRestOfSome() {
+        rounds("rest, none", Check.told("rest"), 0, 1);
+        rounds("rest, one alone is level with nobody", Check.told("green 9;narrow 0;rest"), 0, 9);
+        rounds("rest, none can", Check.told("green 4;stuck 0;stuck 1;rest"), 0, 1);
+        NightPlots x = Check.told("green 5;stuck 0;stuck 1;narrow 3;rest");
+        rounds("rest, two never roll", x, 1, 2);
+        x.go(1);
+        rounds("rest, the two stay level", x, 0, 2);
+        x = Check.told("green 9;stuck 0;narrow 1;narrow 2;stuck 3;narrow 7;rest");
+        rounds("rest, two cannot roll", x, 1, 2);
+        x = Check.told("green 12;narrow 0;narrow 4;narrow 8;rest");
+        rounds("rest, three: each rolls once first", x, 2, 36);
+        x.go(1);
+        rounds("rest, three, two of them level", x, 1, 36);
+        x.go(1);
+        rounds("rest, three, no two level", x, 0, 36);
     }
 
     // Worked out by the plain model: nights ahead and later are 500 together, and 501.

@@ -36,7 +36,7 @@ final class PlainModel {
         }
     }
 
-    /** How all stands: who stands where, who rolled when, the order of REST as a queue. */
+    /** How all stands: who stands where, who rolled when, whom REST takes next as a queue. */
     private static final class World {
         Village v;
         List<String> kinds;
@@ -175,8 +175,20 @@ final class PlainModel {
         }
 
         String key() {
-            String rest = v.law == 1 ? "t" + turn : v.law == 2 ? "q" + queue : v.law == 3 ? "x" + x : "";
+            String rest = v.law == 1 ? "t" + turn : v.law == 2 ? "q" + rested() : v.law == 3 ? "x" + x : "";
             return places + rest;
+        }
+
+        /** Of each two whether one has not rolled for longer than the other one, or both for equally long. */
+        String rested() {
+            StringBuilder signs = new StringBuilder();
+            for (int a = 0; a < kinds.size(); a++) {
+                for (int b = 0; b < a; b++) {
+                    boolean level = !rolled.containsKey(a) && !rolled.containsKey(b);
+                    signs.append(level ? '=' : queue.indexOf(a) < queue.indexOf(b) ? '>' : '<');
+                }
+            }
+            return signs.toString();
         }
     }
 
