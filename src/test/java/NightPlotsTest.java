@@ -54,21 +54,11 @@ public final class NightPlotsTest {
     }
 
     private static void fault(String text, int want) {
-        faultBehind("", text, want);
+        Check.fault(text, want);
     }
 
     private static void faultBehind(String ahead, String text, int want) {
-        NightPlots x = new NightPlots();
-        if (!ahead.isEmpty()) {
-            Check.tell(x, ahead);
-        }
-        Check.write(x, text);
-        due("fault of '" + text + "' behind '" + ahead + "'", x.fault(), want);
-        due("bytes of '" + text + "'", x.count(10), text.length());
-        if (want != NONE) {
-            due("green of '" + text + "'", x.green(), NOT);
-            due("bytes of '" + text + "' behind green", x.count(10), text.length());
-        }
+        Check.faultBehind(ahead, text, want);
     }
 
     private static void constants() {
