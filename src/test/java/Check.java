@@ -81,6 +81,11 @@ final class Check {
         return x;
     }
 
+    static void roll(NightPlots x, int house, int plot) {
+        int nights = x.count(5);
+        due("roll(" + house + ", " + plot + ")", x.roll(house, plot), nights + 1);
+    }
+
     /** The fault of a text on a new object: its place, and that green does as the fault asks. */
     static void fault(String text, int want) {
         faultBehind("", text, want);

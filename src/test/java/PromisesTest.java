@@ -318,7 +318,7 @@ public final class PromisesTest {
 
     static void promise7_rolledOnTheFirstOf9999Nights() {
         NightPlots x = Check.told("green 12;narrow 0;narrow 6");
-        x.roll(1, 7);
+        Check.roll(x, 1, 7);
         for (int i = 0; i < 100; i++) {
             x.go(99);
         }
@@ -470,29 +470,29 @@ public final class PromisesTest {
 
     static void promise11_theTurnOfTheNextOne() {
         NightPlots x = Check.told("green 12;narrow 0;narrow 4;narrow 8;turn");
-        x.roll(1, 5);
+        Check.roll(x, 1, 5);
         due("behind house 1", x.count(6), 2);
-        x.roll(0, 1);
+        Check.roll(x, 0, 1);
         due("behind house 0", x.count(6), 1);
     }
 
     static void promise11_theTurnBehindTheLastOne() {
         NightPlots x = Check.told("green 12;narrow 0;narrow 4;narrow 8;turn");
-        x.roll(2, 9);
+        Check.roll(x, 2, 9);
         due("turn", x.count(6), 0);
     }
 
     static void promise11_noTurnByOtherLaws() {
         for (String law : new String[] {"age", "rest", "lot 4"}) {
             NightPlots x = Check.told("green 12;narrow 0;narrow 4;" + law);
-            x.roll(0, 1);
+            Check.roll(x, 0, 1);
             due("turn by " + law, x.count(6), NONE);
         }
     }
 
     static void promise11_lotStays() {
         NightPlots x = Check.told("green 12;narrow 0;lot 4");
-        x.roll(0, 1);
+        Check.roll(x, 0, 1);
         due("x", x.count(7), 4);
     }
 
@@ -506,6 +506,14 @@ public final class PromisesTest {
         due("wide, onto another one", x.roll(2, 4), NOT);
         due("wide, too far", x.roll(2, 7), NOT);
         due("nights", x.count(5), 0);
+    }
+
+    static void promise11_notWhereAnotherOneCan() {
+        NightPlots x = Check.told("green 12;cart 0;narrow 4;path 0 8");
+        due("the cart, too far", x.roll(0, 6), NOT);
+        due("the other one by its path", x.roll(1, 8), NOT);
+        due("the cart", x.roll(0, 8), 1);
+        due("the other one to where it was", x.roll(1, 0), NOT);
     }
 
     static void promise11_unknown() {
@@ -701,8 +709,8 @@ public final class PromisesTest {
 
     static void promise15_whoseTurn() {
         NightPlots x = Check.told("green 12;narrow 0;narrow 6;turn");
-        x.roll(0, 1);
-        x.roll(0, 0);
+        Check.roll(x, 0, 1);
+        Check.roll(x, 0, 0);
         due("the plots as at first, another turn: ahead", x.round(0), 0);
         due("the plots as at first, another turn: later", x.round(1), 24);
         rounds("green 12;narrow 1;stuck 0;stuck 4;turn", 1, 2);
@@ -713,10 +721,24 @@ public final class PromisesTest {
         rounds("green 3;narrow 0;narrow 1;rest", 1, 6);
         rounds("green 9;narrow 0;rest", 0, 9);
         NightPlots x = Check.told("green 12;narrow 0;narrow 6;rest");
-        x.roll(0, 1);
-        x.roll(1, 7);
+        Check.roll(x, 0, 1);
+        Check.roll(x, 1, 7);
         due("behind two rolls: ahead", x.round(0), 0);
         due("behind two rolls: later", x.round(1), 24);
+    }
+
+    static void promise15_theirOrderByRestOfThoseThatHaveNotRolled() {
+        rounds("green 5;narrow 3;stuck 0;stuck 1;rest", 1, 2);
+        rounds("green 5;stuck 0;narrow 3;stuck 1;rest", 1, 2);
+        rounds("green 5;stuck 0;stuck 1;narrow 3;rest", 1, 2);
+    }
+
+    // Houses 3 and 7 alone can roll, there and back: 3 to 4, and 6 to 7.
+    static void promise15_eightHouses() {
+        String eight = "green 12;stuck 0;stuck 1;stuck 2;narrow 3;stuck 5;stuck 8;stuck 9;narrow 6;";
+        rounds(eight + "turn", 0, 4);
+        rounds(eight + "rest", 2, 4);
+        rounds(eight + "age", 0, 2);
     }
 
     static void promise15_500Together() {
@@ -864,6 +886,12 @@ public final class PromisesTest {
         due("never", x.often(1, 2, 0, 99), 0);
     }
 
+    static void promise18_fromNow() {
+        NightPlots x = nightsOn("green 12;narrow 0;stuck 6", 5);
+        due("beside, on 1 day", x.often(0, 1, 0, 1), 1);
+        due("opposite, on 99 days", x.often(0, 1, 1, 99), 0);
+    }
+
     static void promise18_refused() {
         NightPlots x = Check.told("narrow 0;narrow 2");
         due("days 0", x.often(0, 1, 0, 0), OUTSIDE);
@@ -898,6 +926,10 @@ public final class PromisesTest {
         due("nothing", x.brings(1, 99), 0);
         x = Check.told("green 3;crop 0 9;crop 1 9;stuck 0");
         due("stuck", x.brings(0, 99), 891);
+    }
+
+    static void promise19_fromNow() {
+        due("1 day", nightsOn("green 12;crop 5 9;narrow 0", 5).brings(0, 1), 9);
     }
 
     static void promise19_refused() {
@@ -941,6 +973,10 @@ public final class PromisesTest {
 
     static void promise20_notOpposite() {
         due("opposite", Check.told("stuck 0;stuck 3;feud 0 1").feuding(9), 0);
+    }
+
+    static void promise20_fromNow() {
+        due("1 day", nightsOn("green 12;narrow 0;stuck 6;feud 0 1", 5).feuding(1), 1);
     }
 
     static void promise20_outside() {
@@ -1007,6 +1043,12 @@ public final class PromisesTest {
         nearest("green 12;wide 0;stuck 9;stuck 2", 0, 1, 2, 11);
     }
 
+    static void promise21_fromNow() {
+        NightPlots x = nightsOn("green 12;narrow 0;stuck 7", 4);
+        due("nights", x.nearest(0, 1, 0), 2);
+        due("first roll", x.nearest(0, 1, 1), 5);
+    }
+
     static void promise21_refused() {
         NightPlots x = Check.told("narrow 0;narrow 2");
         due("one and itself", x.nearest(1, 1, 0), OUTSIDE);
@@ -1062,6 +1104,10 @@ public final class PromisesTest {
         mends("green 12;stuck 1;stuck 4;wide 5;stuck 8", 0, 3, 99, NONE, NONE);
     }
 
+    static void promise22_madeNarrowAreNoCarts() {
+        mends("green 12;stuck 0;stuck 1;stuck 11;stuck 6;path 0 5", 0, 3, 1, NONE, NONE);
+    }
+
     // Worked out by the plain model.
     static void promise22_99Nights() {
         String text = "green 10;narrow 3;wide 1;stuck 4;cart 5;narrow 9;path 7 3;turn";
@@ -1072,6 +1118,25 @@ public final class PromisesTest {
     static void promise22_byLaw() {
         mends("green 12;narrow 0;stuck 4;stuck 8;turn", 1, 2, 99, 2, 2);
         mends("green 12;narrow 0;stuck 4;stuck 8;age", 1, 2, 99, NONE, NONE);
+    }
+
+    static void promise22_fromNow() {
+        NightPlots x = Check.told("green 12;narrow 0;stuck 5");
+        due("in 3 nights", x.mends(0, 1, 3, 0), NONE);
+        x.go(1);
+        due("in 3 nights, a night on", x.mends(0, 1, 3, 0), 0);
+    }
+
+    static void promise22_stuckStillThen() {
+        NightPlots x = Check.told("green 12;stuck 0;stuck 3");
+        x.seen(0, 0, 99);
+        due("set", x.mends(0, 1, 2, 1), 1);
+        due("laws", x.laws(), 7);
+        due("none in one night", x.mends(0, 1, 1, 1), NONE);
+        due("laws", x.laws(), 7);
+        due("later", x.later(0, 99), 0);
+        due("nearest", x.nearest(0, 1, 0), NONE);
+        due("ways", x.as(0, 3), 0);
     }
 
     static void promise22_refused() {
@@ -1176,10 +1241,10 @@ public final class PromisesTest {
 
     static void promise25_night0AsTold() {
         NightPlots x = nightsOn(IN_THE_WAY, 50);
-        x.roll(1, 7);
-        x.seen(1, 6, 0);
+        Check.roll(x, 2, 8);
+        x.seen(2, 7, 0);
         due("as told", x.laws(), 7);
-        x.seen(1, 7, 0);
+        x.seen(2, 8, 0);
         due("not as told", x.laws(), 0);
     }
 

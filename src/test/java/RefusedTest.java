@@ -34,6 +34,13 @@ public final class RefusedTest {
         Answers.unchanged(what + " when new", NightPlots::new, call, want);
     }
 
+    static void answers_areAsTheFaceHasThem() {
+        int[] answers = {NightPlots.NONE, NightPlots.UNKNOWN, NightPlots.OUTSIDE, NightPlots.NOT, NightPlots.FULL};
+        for (int i = 0; i < answers.length; i++) {
+            Check.due("constant " + i, answers[i], -1 - i);
+        }
+    }
+
     // ---- UNKNOWN: no such PLOT
 
     static void unknown_plotOfPlot() {

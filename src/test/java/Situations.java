@@ -10,7 +10,7 @@ final class Situations {
         x.go(3);
         x.keep(0);
         x.go(2);
-        x.roll(4, x.can(4, 0));
+        Check.roll(x, 4, x.can(4, 0));
         x.seen(0, 0, 0);
         x.seen(1, 3, 0);
         x.seen(0, 1, 1);
@@ -38,6 +38,9 @@ final class Situations {
             x.seen(1, 3, i);
         }
         Check.write(x, "turn" + " ".repeat(196));
+        Check.due("nights", x.count(5), 9999);
+        Check.due("seen", x.count(8), 8);
+        Check.due("bytes", x.count(10), 200);
         return x;
     }
 }

@@ -344,11 +344,11 @@ public final class TermsTest {
 
     static void rest_theOneThatHasNotRolledAheadOfOthers() {
         NightPlots x = Check.told("green 12;narrow 0;narrow 4;narrow 8;rest");
-        x.roll(0, 1);
-        x.roll(1, 5);
+        Check.roll(x, 0, 1);
+        Check.roll(x, 1, 5);
         x.go(1);
         due("house 2", x.house(2, 1), 9);
-        x.roll(0, 2);
+        Check.roll(x, 0, 2);
         x.go(1);
         due("house 1", x.house(1, 1), 6);
     }

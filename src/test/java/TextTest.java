@@ -116,6 +116,14 @@ public final class TextTest {
         }
     }
 
+    static void words_eachLetterOfEach() {
+        for (String word : WORDS) {
+            for (int i = 0; i < word.length(); i++) {
+                fault(word.substring(0, i) + 'q' + word.substring(i + 1) + " 1 1", 0);
+            }
+        }
+    }
+
     static void words_smallLettersAlone() {
         for (String word : WORDS) {
             fault(word.toUpperCase() + " 1 1", 0);
