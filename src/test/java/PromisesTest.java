@@ -768,8 +768,12 @@ public final class PromisesTest {
         }
     }
 
+    // 16807 to the power of n is 1 modulo 65521 for no n below 6552: no x comes again in 500 nights.
     static void promise15_lotNotIn500() {
         rounds("green 9;narrow 0;narrow 4;lot 5", NONE, NONE);
+        for (int seed = 1; seed <= 9999; seed += 17) {
+            rounds("green 3;narrow 0;narrow 1;lot " + seed, NONE, NONE);
+        }
     }
 
     static void promise15_refused() {
