@@ -14,6 +14,7 @@ public final class NightPlots {
     private static final int MOST_BYTES = 200, MOST_BYTES_A_CALL = 8, MOST_LINES = 12;
     private static final int MOST_NIGHTS = 9999, MOST_NIGHTS_A_CALL = 99;
     private static final int KEEPS = 2, MOST_SEEN = 8;
+    private static final int A_ROLL = 20;
     private static final int LAST_NIGHT_OF_WHEN = 399, LAST_NIGHT_OF_ROUND = 500, LAST_NIGHT_OF_NEAREST = 5;
 
     private final Told told = new Told();
@@ -300,7 +301,12 @@ public final class NightPlots {
         for (int set = 0; set < 1 << MOST_HOUSES; set++) {
             int cost = costOf(set);
             boolean cheaper = bestSet == NONE || cost < bestCost;
-            if ((set & ~stuck) == 0 && cheaper && meetsMended(a, b, nights, set)) {
+            if ((set & ~stuck) != 0 || !cheaper) {
+                continue;
+            }
+            ahead.copyFrom(now);
+            ahead.mended = set;
+            if (firstMeeting(a, b, 0, nights) != NONE) {
                 bestSet = set;
                 bestCost = cost;
             }
@@ -419,12 +425,6 @@ public final class NightPlots {
         return NONE;
     }
 
-    private boolean meetsMended(int a, int b, int nights, int set) {
-        ahead.copyFrom(now);
-        ahead.mended = set;
-        return firstMeeting(a, b, 0, nights) != NONE;
-    }
-
     private static int costOf(int set) {
         int cost = 0;
         for (int house = 0; house < MOST_HOUSES; house++) {
@@ -463,6 +463,8 @@ public final class NightPlots {
         int feuds;
         int law;
         int seed;
+        /** The plots, by bits, on which the houses stand at NIGHT 0. */
+        int taken;
         final int[] crop = new int[MOST_PLOTS];
         final int[] kind = new int[MOST_HOUSES];
         final int[] place = new int[MOST_HOUSES];
@@ -487,6 +489,7 @@ public final class NightPlots {
         void removeHouses() {
             houses = 0;
             feuds = 0;
+            taken = 0;
         }
 
         void copyFrom(Told other) {
@@ -496,6 +499,7 @@ public final class NightPlots {
             feuds = other.feuds;
             law = other.law;
             seed = other.seed;
+            taken = other.taken;
             System.arraycopy(other.crop, 0, crop, 0, MOST_PLOTS);
             System.arraycopy(other.kind, 0, kind, 0, MOST_HOUSES);
             System.arraycopy(other.place, 0, place, 0, MOST_HOUSES);
@@ -529,14 +533,6 @@ public final class NightPlots {
             return (forth | back) & allPlots();
         }
 
-        int takenAtFirst() {
-            int bits = 0;
-            for (int house = 0; house < houses; house++) {
-                bits |= ground(kind[house], place[house]);
-            }
-            return bits;
-        }
-
         int stuckOnes() {
             int bits = 0;
             for (int house = 0; house < houses; house++) {
@@ -549,14 +545,14 @@ public final class NightPlots {
 
         /** False, and nothing changes: one of this kind cannot stand there. */
         boolean settle(int newKind, int plot) {
-            int before = takenAtFirst();
             int more = ground(newKind, plot);
-            if (houses >= MOST_HOUSES || (before & more) != 0 || (before | more) == allPlots()) {
+            if (houses >= MOST_HOUSES || (taken & more) != 0 || (taken | more) == allPlots()) {
                 return false;
             }
             kind[houses] = newKind;
             place[houses] = plot;
             houses++;
+            taken |= more;
             return true;
         }
 
@@ -613,7 +609,7 @@ public final class NightPlots {
         void startAsTold() {
             System.arraycopy(told.place, 0, place, 0, MOST_HOUSES);
             Arrays.fill(rolled, 0);
-            taken = told.takenAtFirst();
+            taken = told.taken;
             nights = 0;
             turn = 0;
             x = told.seed;
@@ -697,25 +693,33 @@ public final class NightPlots {
         }
 
         void moveHouse(int house, int plot) {
-            taken &= ~groundOf(house);
+            taken &= ~told.ground(told.kind[house], place[house]);
             place[house] = plot;
-            taken |= groundOf(house);
+            taken |= told.ground(told.kind[house], plot);
         }
 
         // ---- nights
 
         void passNight(int law) {
-            if (law == LOT) {
-                passNightByLot();
-                return;
+            int roll;
+            switch (law) {
+                case TURN:
+                    roll = firstFrom(turn);
+                    break;
+                case REST:
+                    roll = longestRested();
+                    break;
+                case LOT:
+                    roll = drawn();
+                    break;
+                default:
+                    roll = firstFrom(0);
             }
-            int roller = chooseRoller(law);
-            if (roller == NONE) {
+            if (roll == NONE) {
                 nights++;
                 return;
             }
-            findWays(roller, ways);
-            passNightOf(roller, ways[0], law);
+            passNightOf(roll / A_ROLL, roll % A_ROLL, law);
         }
 
         void passNightOf(int house, int plot, int law) {
@@ -727,43 +731,13 @@ public final class NightPlots {
             }
         }
 
-        private void passNightByLot() {
-            int all = 0;
-            for (int house = 0; house < told.houses; house++) {
-                all += findWays(house, ways);
-            }
-            if (all <= 0) {
-                nights++;
-                return;
-            }
-            x = LOT_FACTOR * x % LOT_MODULUS;
-            rollByNumber(x % all);
-        }
+        // The next three answer the roll of the night, 20 times the house and the plot; NONE: none can.
 
-        private void rollByNumber(int number) {
-            int left = number;
-            for (int house = 0; house < told.houses; house++) {
-                int found = findWays(house, ways);
-                if (left >= 0 && left < found && left < ways.length) {
-                    passNightOf(house, ways[left], LOT);
-                    return;
-                }
-                left -= found;
-            }
-        }
-
-        private int chooseRoller(int law) {
-            if (law == REST) {
-                return longestRested();
-            }
-            return firstThatCan(law == TURN ? turn : 0);
-        }
-
-        private int firstThatCan(int start) {
+        private int firstFrom(int start) {
             int house = start;
             for (int i = 0; i < told.houses; i++) {
                 if (findWays(house, ways) > 0) {
-                    return house;
+                    return A_ROLL * house + ways[0];
                 }
                 house = house + 1 < told.houses ? house + 1 : 0;
             }
@@ -772,13 +746,36 @@ public final class NightPlots {
 
         private int longestRested() {
             int best = NONE;
+            int roll = NONE;
             for (int house = 0; house < told.houses; house++) {
                 boolean longer = best == NONE || rolled[house] < rolled[best];
                 if (longer && findWays(house, ways) > 0) {
                     best = house;
+                    roll = A_ROLL * house + ways[0];
                 }
             }
-            return best;
+            return roll;
+        }
+
+        /** The lot is drawn, and x goes on, if one can roll at all. */
+        private int drawn() {
+            int all = 0;
+            for (int house = 0; house < told.houses; house++) {
+                all += findWays(house, ways);
+            }
+            if (all <= 0) {
+                return NONE;
+            }
+            x = LOT_FACTOR * x % LOT_MODULUS;
+            int left = x % all;
+            for (int house = 0; house < told.houses; house++) {
+                int found = findWays(house, ways);
+                if (left >= 0 && left < found && left < ways.length) {
+                    return A_ROLL * house + ways[left];
+                }
+                left -= found;
+            }
+            return NONE;
         }
 
         // ---- who is where
@@ -861,7 +858,7 @@ public final class NightPlots {
         private final long[] deadEnds = new long[1 << SLOT_BITS];
         private int a;
         private int b;
-        /** Of the row found last: 20 times the house, and the plot. */
+        /** Of the row found last, 20 times the house and the plot. */
         int firstRoll;
 
         Search(Standing standing) {
@@ -903,7 +900,7 @@ public final class NightPlots {
                 boolean good = nightsLeft == 1 ? s.standing.areBeside(s.a, s.b) : reaches(s, nightsLeft - 1);
                 s.standing.moveHouse(house, from);
                 if (good) {
-                    s.firstRoll = 20 * house + row[i];
+                    s.firstRoll = A_ROLL * house + row[i];
                     return true;
                 }
             }
@@ -919,7 +916,8 @@ public final class NightPlots {
     /** THE TEXT: its bytes, and how they are read. */
     private static final class Text {
         private static final int BLANK = 32, SEMICOLON = 59;
-        private static final int DIGITS = 2, SEED_DIGITS = 4;
+        private static final int SIGN = 0, LETTER = 1, DIGIT = 2;
+        private static final int FEW_DIGITS = 2, SEED_DIGITS = 4;
 
         private final int[] bytes = new int[MOST_BYTES];
         int length;
@@ -988,7 +986,7 @@ public final class NightPlots {
         }
 
         private boolean readGreen(Told told) {
-            int size = readNumber(FEWEST_PLOTS, MOST_PLOTS, DIGITS);
+            int size = readNumber(FEWEST_PLOTS, MOST_PLOTS, FEW_DIGITS);
             if (size == NONE) {
                 return false;
             }
@@ -997,11 +995,11 @@ public final class NightPlots {
         }
 
         private boolean readCrop(Told told) {
-            int plot = readNumber(0, told.plots - 1, DIGITS);
+            int plot = readNumber(0, told.plots - 1, FEW_DIGITS);
             if (plot == NONE) {
                 return false;
             }
-            int crop = readNumber(0, MOST_CROP, DIGITS);
+            int crop = readNumber(0, MOST_CROP, FEW_DIGITS);
             if (crop == NONE) {
                 return false;
             }
@@ -1013,7 +1011,7 @@ public final class NightPlots {
             if (told.houses >= MOST_HOUSES) {
                 return false;
             }
-            int plot = readNumber(0, told.plots - 1, DIGITS);
+            int plot = readNumber(0, told.plots - 1, FEW_DIGITS);
             return plot != NONE && told.settle(kind, plot);
         }
 
@@ -1021,11 +1019,11 @@ public final class NightPlots {
             if (told.paths >= MOST_PATHS) {
                 return false;
             }
-            int from = readNumber(0, told.plots - 1, DIGITS);
+            int from = readNumber(0, told.plots - 1, FEW_DIGITS);
             if (from == NONE) {
                 return false;
             }
-            int to = readNumber(0, told.plots - 1, DIGITS);
+            int to = readNumber(0, told.plots - 1, FEW_DIGITS);
             return to != NONE && told.addPath(from, to);
         }
 
@@ -1033,11 +1031,11 @@ public final class NightPlots {
             if (told.feuds >= MOST_FEUDS) {
                 return false;
             }
-            int one = readNumber(0, told.houses - 1, DIGITS);
+            int one = readNumber(0, told.houses - 1, FEW_DIGITS);
             if (one == NONE) {
                 return false;
             }
-            int other = readNumber(0, told.houses - 1, DIGITS);
+            int other = readNumber(0, told.houses - 1, FEW_DIGITS);
             return other != NONE && told.addFeud(one, other);
         }
 
@@ -1092,19 +1090,21 @@ public final class NightPlots {
                 at++;
             }
             tokenBegin = at;
-            while (at < length && goesOn(at)) {
+            if (at < length) {
+                int sort = sortOf(bytes[at]);
                 at++;
+                while (at < length && sort != SIGN && sortOf(bytes[at]) == sort) {
+                    at++;
+                }
             }
             tokenEnd = at;
         }
 
-        /** Whether the byte there belongs to the token that begins at tokenBegin. */
-        private boolean goesOn(int at) {
-            if (at == tokenBegin) {
-                return true;
+        private static int sortOf(int sign) {
+            if (sign >= 'a' && sign <= 'z') {
+                return LETTER;
             }
-            int first = bytes[tokenBegin];
-            return isLetter(first) && isLetter(bytes[at]) || isDigit(first) && isDigit(bytes[at]);
+            return sign >= '0' && sign <= '9' ? DIGIT : SIGN;
         }
 
         private boolean isWord(String word) {
@@ -1123,7 +1123,7 @@ public final class NightPlots {
         private int readNumber(int least, int most, int mostDigits) {
             stepToToken();
             int digits = tokenEnd - tokenBegin;
-            if (digits < 1 || digits > mostDigits || !isDigit(bytes[tokenBegin])) {
+            if (digits < 1 || digits > mostDigits || sortOf(bytes[tokenBegin]) != DIGIT) {
                 return NONE;
             }
             int number = 0;
@@ -1131,14 +1131,6 @@ public final class NightPlots {
                 number = 10 * number + bytes[i] - '0';
             }
             return number < least || number > most ? NONE : number;
-        }
-
-        private static boolean isLetter(int sign) {
-            return sign >= 'a' && sign <= 'z';
-        }
-
-        private static boolean isDigit(int sign) {
-            return sign >= '0' && sign <= '9';
         }
     }
 }

@@ -1,6 +1,12 @@
 import java.io.IOException;
 import java.nio.file.Files;
 import java.nio.file.Path;
+import java.util.ArrayList;
+import java.util.List;
+import java.util.Map;
+import java.util.Set;
+import java.util.TreeMap;
+import java.util.TreeSet;
 import java.util.regex.Matcher;
 import java.util.regex.Pattern;
 
@@ -24,7 +30,8 @@ public final class LanguageTest {
         none(code, "\n        (?!return)[\\w\\[\\]]+ (" + FACE + ")\\(");
         none(code, "[^\\x00-\\x7f]");
         face(code);
-        methodLengths(code);
+        methods(code);
+        classes(code);
         Check.end("LanguageTest");
     }
 
@@ -45,14 +52,60 @@ public final class LanguageTest {
         Check.due("members that are package-visible", all.find() ? 1 : 0, 0);
     }
 
-    private static void methodLengths(String code) {
-        Matcher m = Pattern.compile("(?ms)^(    |        )[\\w\\[\\]][^;{}]*\\) \\{.*?^\\1\\}").matcher(code);
-        int methods = 0;
+    private static void methods(String code) {
+        Map<String, Set<String>> calls = new TreeMap<>();
+        Matcher m = Pattern.compile("(?ms)^(    |        )[\\w\\[\\]][^;{}]*?(\\w+)\\(([^;{}]*)\\) \\{.*?^\\1\\}").matcher(code);
         while (m.find()) {
-            methods++;
+            String head = m.group().lines().findFirst().orElse("");
             long lines = m.group().lines().count();
-            Check.due("lines of " + m.group().lines().findFirst().orElse(""), lines > 60 ? lines : 0, 0);
+            long parameters = m.group(3).isEmpty() ? 0 : m.group(3).split(",").length;
+            Check.due("lines of " + head, lines > 60 ? lines : 0, 0);
+            Check.due("parameters of " + head, parameters > 7 ? parameters : 0, 0);
+            calls.computeIfAbsent(m.group(2), name -> new TreeSet<>()).addAll(called(m.group(), m.group(2)));
         }
-        Check.due("methods found", methods > 50 ? 1 : 0, 1);
+        Check.due("whether methods are found", calls.size() > 60 ? 1 : 0, 1);
+        Check.due("whether calls are found", calls.get("mends").contains("firstMeeting") ? 1 : 0, 1);
+        for (String name : calls.keySet()) {
+            int depth = depth(name, calls, List.of());
+            Check.due("whether the calls of " + name + " go at most eight deep: " + depth, depth > 8 ? 0 : 1, 1);
+        }
+    }
+
+    private static Set<String> called(String method, String own) {
+        Set<String> names = new TreeSet<>();
+        Matcher m = Pattern.compile("(?<!new )\\b(\\w+)\\(").matcher(method);
+        while (m.find()) {
+            names.add(m.group(1));
+        }
+        names.remove(own);
+        return names;
+    }
+
+    /** Methods of one name are taken as one; a call of what stands open already is a recursion. */
+    private static int depth(String name, Map<String, Set<String>> calls, List<String> open) {
+        int deepest = 0;
+        List<String> then = new ArrayList<>(open);
+        then.add(name);
+        for (String next : calls.getOrDefault(name, Set.of())) {
+            if (calls.containsKey(next) && !then.contains(next)) {
+                deepest = Math.max(deepest, depth(next, calls, then));
+            }
+        }
+        return deepest + 1;
+    }
+
+    /** An object made by a call would be counted as often as it is called. */
+    private static void classes(String code) {
+        Matcher m = Pattern.compile("(?m)^ *(?:public|private static) final class \\w+").matcher(code);
+        int classes = 0;
+        while (m.find()) {
+            classes++;
+        }
+        Check.due("classes", classes > 12 ? classes : 0, 0);
+        Check.due("classes of another form", Pattern.compile("\\b(class|enum|record|interface) ").matcher(code)
+            .results().count(), classes);
+        none(code, "^ ++(?!(private )?final |kept\\[k\\] = new Standing\\(told\\);)[^\n]*\\bnew\\b");
+        none(code, "\\bArrays\\.(?!fill\\()");
+        none(code, "\\b(Math|Integer|Long)\\.(?!(abs|max|min)\\()");
     }
 }
